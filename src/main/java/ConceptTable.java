@@ -298,7 +298,7 @@ public final class ConceptTable {
         }
 
         int row(int i) {
-            return isObject(i) ? rows[i] : 0;
+            return i >= 0 && i < size ? rows[i] : 0;
         }
 
         int allAttributes() {

@@ -91,6 +91,7 @@ public final class PromisesTest {
         due.is("2 a wrong one leaves objects", x.count(1), 1);
         due.is("2 a wrong one leaves ASKING", x.count(3), 1);
         due.is("2 a wrong one leaves ACCEPTED", x.count(2), 1);
+        due.is("2 base before", x.rule(0, 1), 1);
         due.is("2 begin(2)", x.begin(2), 1);
         due.is("2 no ASKING", x.count(3), 0);
         due.is("2 no ACCEPTED", x.count(2), 0);
@@ -242,7 +243,9 @@ public final class PromisesTest {
                 due.is("10 concept(" + i + ", " + what + ")", x.concept(i, what), rows[i][what]);
             }
         }
-        due.is("10 behind the last", x.concept(6, 0), NONE);
+        for (int what = 0; what < 6; what++) {
+            due.is("10 behind the last", x.concept(6, what), NONE);
+        }
         due.is("10 i below 0", x.concept(-1, 0), NONE);
         due.is("10 greatest i", x.concept(MOST, 1), NONE);
         due.is("10 greatest what", x.concept(5, MOST), NONE);
@@ -257,6 +260,11 @@ public final class PromisesTest {
         due.is("10 right above", y.concept(y.concepts() - 1, 3), 2);
         due.is("10 first above", y.concept(y.concepts() - 1, 5), 6);
         due.is("10 second above", y.concept(y.concepts() - 1, 6), 1);
+        y.object(5);
+        due.is("10 more above", y.concept(y.concepts() - 1, 3), 2);
+        due.is("10 in place of a part of it", y.concept(y.concepts() - 1, 6), 5);
+        due.is("10 none in its place", y.concept(y.concepts() - 1, 7), NONE);
+        y.remove(3);
         y.remove(1);
         due.is("10 after remove", y.concept(y.concepts() - 1, 2), 2);
     }
