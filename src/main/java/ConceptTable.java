@@ -1,21 +1,21 @@
-import java.util.Arrays;
-
 /** A table of objects and attributes, its concepts, its base of rules, and the asking of an expert. */
 public final class ConceptTable {
     public static final int NONE = -1, BAD = -2, FULL = -3, AGAINST = -4;
 
     private static final int FIRST_ATTRIBUTES = 6;
     private static final int MOST_ATTRIBUTES = 12;
+    private static final int MOST_SETS = 1 << MOST_ATTRIBUTES;
     private static final int MOST_OBJECTS = 20;
     private static final int MOST_CALLS = 512;
 
     private static final int ABOVE_FROM = 5;
 
+    // All rows are made here, wide enough for every begin(), so that no call makes any.
     private final Table table = new Table();
     private final Neighbours neighbours = new Neighbours();
     private final Inquiry inquiry = new Inquiry();
-    private Family family = new Family(FIRST_ATTRIBUTES);
-    private Base stem = new Base(FIRST_ATTRIBUTES);
+    private final Family family = new Family();
+    private final Base stem = new Base();
 
     public ConceptTable() {
         table.restart(FIRST_ATTRIBUTES);
@@ -27,7 +27,6 @@ public final class ConceptTable {
             return BAD;
         }
         int objectsBefore = table.size();
-        makeRoom(attributes);
         table.restart(attributes);
         family.restart(attributes);
         stem.forget();
@@ -216,14 +215,6 @@ public final class ConceptTable {
         }
     }
 
-    /** The rows grow but never shrink, so that many begin() calls make few of them. */
-    private void makeRoom(int attributes) {
-        if (!family.hasRoomFor(attributes)) {
-            family = new Family(attributes);
-            stem = new Base(attributes);
-        }
-    }
-
     private int addRow(int set) {
         int number = table.append(set);
         family.meetWith(set);
@@ -242,6 +233,10 @@ public final class ConceptTable {
 
     /** Sets as numbers, and their ORDER. */
     private static final class Sets {
+        static boolean isIndexIn(int[] row, int set) {
+            return set >= 0 && set < row.length;
+        }
+
         static int allOf(int members) {
             return (1 << members) - 1;
         }
@@ -331,7 +326,10 @@ public final class ConceptTable {
         }
 
         int takeOut(int object) {
-            int set = row(object);
+            if (!isObject(object)) {
+                return BAD;
+            }
+            int set = rows[object];
             for (int i = object + 1; i < size; i++) {
                 rows[i - 1] = rows[i];
             }
@@ -417,26 +415,20 @@ public final class ConceptTable {
      * themselves, so one object more only adds its common part with each of them.
      */
     private static final class Family {
-        private final int[] members;
+        private final int[] members = new int[MOST_SETS];
         /** By set: NONE if it is not closed; its LEVEL once the family is arranged. */
-        private final int[] levels;
+        private final int[] levels = new int[MOST_SETS];
         private int attributes;
         private int size;
         private boolean arranged;
 
-        Family(int mostAttributes) {
-            members = new int[1 << mostAttributes];
-            levels = new int[1 << mostAttributes];
-        }
-
-        boolean hasRoomFor(int newAttributes) {
-            return members.length >= 1 << newAttributes;
-        }
-
+        /** Leaves what stands behind the sets of these attributes as it is: no call looks there. */
         void restart(int newAttributes) {
             attributes = newAttributes;
             size = 0;
-            Arrays.fill(levels, NONE);
+            for (int set = 0; set < 1 << attributes; set++) {
+                setLevel(set, NONE);
+            }
             include(Sets.allOf(attributes));
         }
 
@@ -448,8 +440,8 @@ public final class ConceptTable {
         }
 
         private void include(int set) {
-            if (levels[set] == NONE) {
-                levels[set] = 0;
+            if (!isClosed(set) && size < members.length) {
+                setLevel(set, 0);
                 members[size] = set;
                 size++;
                 arranged = false;
@@ -469,11 +461,17 @@ public final class ConceptTable {
         }
 
         boolean isClosed(int set) {
-            return levels[set] != NONE;
+            return levelOf(set) != NONE;
         }
 
         int levelOf(int set) {
-            return levels[set];
+            return Sets.isIndexIn(levels, set) ? levels[set] : NONE;
+        }
+
+        private void setLevel(int set, int level) {
+            if (Sets.isIndexIn(levels, set)) {
+                levels[set] = level;
+            }
         }
 
         /** Puts the members in ORDER and finds their levels, those of the parts of a set before its own. */
@@ -483,7 +481,7 @@ public final class ConceptTable {
             }
             putInOrder();
             for (int i = 0; i < size; i++) {
-                levels[members[i]] = levelFromAbove(members[i], table);
+                setLevel(members[i], levelFromAbove(members[i], table));
             }
             arranged = true;
         }
@@ -492,7 +490,7 @@ public final class ConceptTable {
             int placed = 0;
             int set = 0;
             for (int turn = 0; turn < 1 << attributes && set != NONE; turn++) {
-                if (isClosed(set)) {
+                if (isClosed(set) && placed < size) {
                     members[placed] = set;
                     placed++;
                 }
@@ -506,7 +504,7 @@ public final class ConceptTable {
             for (int i = 0; i < table.size(); i++) {
                 int above = set & table.row(i);
                 if (above != set) {
-                    level = Math.max(level, levels[above] + 1);
+                    level = Math.max(level, levelOf(above) + 1);
                 }
             }
             return level;
@@ -660,15 +658,10 @@ public final class ConceptTable {
 
     /** THE BASE, made when it is wanted and kept till the objects change. */
     private static final class Base {
-        private final Rules rules;
+        private final Rules rules = new Rules(MOST_SETS);
         /** By set: the closures, joined, of all premises that are a part of it or all of it. */
-        private final int[] joined;
+        private final int[] joined = new int[MOST_SETS];
         private boolean built;
-
-        Base(int mostAttributes) {
-            rules = new Rules(1 << mostAttributes);
-            joined = new int[1 << mostAttributes];
-        }
 
         void forget() {
             built = false;
@@ -693,7 +686,7 @@ public final class ConceptTable {
                     rules.append(set, closed);
                     fromParts |= closed;
                 }
-                joined[set] = fromParts;
+                setJoined(set, fromParts);
                 set = Sets.rightBehind(set, attributes);
             }
             built = true;
@@ -704,10 +697,20 @@ public final class ConceptTable {
             for (int k = 0; k < attributes; k++) {
                 int bit = 1 << k;
                 if ((set & bit) != 0) {
-                    closures |= joined[set ^ bit];
+                    closures |= joinedOf(set ^ bit);
                 }
             }
             return closures;
+        }
+
+        private int joinedOf(int set) {
+            return Sets.isIndexIn(joined, set) ? joined[set] : 0;
+        }
+
+        private void setJoined(int set, int closures) {
+            if (Sets.isIndexIn(joined, set)) {
+                joined[set] = closures;
+            }
         }
     }
 

@@ -7,6 +7,7 @@ public final class WideTest {
         everySetIsAConcept();
         halfOfTheSets();
         aChain();
+        usedRowsLeaveNoTrace();
         callsAfterTheLast();
         due.end();
     }
@@ -19,6 +20,43 @@ public final class WideTest {
             due.is("object", x.object(ALL ^ 1 << k), k);
         }
         return x;
+    }
+
+    /** The rows of an object serve all its tables, so what a wide one left there must not be seen in the next one. */
+    private static void usedRowsLeaveNoTrace() {
+        for (int width = 1; width <= 12; width++) {
+            ConceptTable used = everySet();
+            used.count(4);
+            used.remove(0);
+            used.base();
+            used.begin(width);
+            ConceptTable fresh = new ConceptTable();
+            fresh.begin(width);
+            alike(used, fresh, width);
+            used.begin(12);
+            fresh.begin(12);
+            alike(used, fresh, 12);
+        }
+    }
+
+    private static void alike(ConceptTable used, ConceptTable fresh, int width) {
+        int all = (1 << width) - 1;
+        for (int i = 0; i < 4; i++) {
+            String at = " at width " + width + " with " + i + " objects";
+            due.is("concepts" + at, used.concepts(), fresh.concepts());
+            due.is("base" + at, used.base(), fresh.base());
+            due.is("greatest level" + at, used.count(4), fresh.count(4));
+            due.is("ask" + at, used.ask(), fresh.ask());
+            for (int k = 0; k < 9; k++) {
+                due.is("set of concept " + k + at, used.concept(k, 0), fresh.concept(k, 0));
+                due.is("level of concept " + k + at, used.concept(k, 2), fresh.concept(k, 2));
+                due.is("IF of rule " + k + at, used.rule(k, 0), fresh.rule(k, 0));
+                due.is("THEN of rule " + k + at, used.rule(k, 1), fresh.rule(k, 1));
+                due.is("follows " + k + at, used.follows(k & all, 4), fresh.follows(k & all, 4));
+            }
+            int row = (1365 + 731 * i) & all;
+            due.is("object" + at, used.object(row), fresh.object(row));
+        }
     }
 
     private static int inOrder(int i) {
