@@ -1,14 +1,17 @@
-/** Compares answers with those that are due, and ends a test with exit code 1 if one was wrong. */
-final class Due {
+/**
+ * Compares answers with those that are due, and ends a test with exit code 1 if one was wrong. Public, as
+ * BrokenTest has it used by classes of another loader.
+ */
+public final class Due {
     private final String test;
     private int checked = 0;
     private int wrong = 0;
 
-    Due(String test) {
+    public Due(String test) {
         this.test = test;
     }
 
-    void is(String call, long got, long want) {
+    public void is(String call, long got, long want) {
         checked++;
         if (got != want) {
             wrong++;
@@ -16,7 +19,7 @@ final class Due {
         }
     }
 
-    void holds(String what, boolean truth) {
+    public void holds(String what, boolean truth) {
         checked++;
         if (!truth) {
             wrong++;
@@ -24,11 +27,24 @@ final class Due {
         }
     }
 
-    boolean hasWrong() {
+    public void same(String what, String got, String want) {
+        checked++;
+        if (!got.equals(want)) {
+            wrong++;
+            System.out.println(test + ": " + what + " is \"" + got + "\", due is \"" + want + "\"");
+        }
+    }
+
+    public void add(Due part) {
+        checked += part.checked;
+        wrong += part.wrong;
+    }
+
+    public boolean hasWrong() {
         return wrong > 0;
     }
 
-    void end() {
+    public void end() {
         System.out.println(test + ": " + checked + " checks, " + wrong + " wrong");
         System.exit(wrong == 0 ? 0 : 1);
     }
