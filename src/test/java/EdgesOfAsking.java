@@ -13,7 +13,8 @@ final class EdgesOfAsking extends Edges {
     // Promise 18: ask
 
     @Edge(promise = 18, words = "ASKING begins (anew): THE QUESTION'S set",
-        broken = {"open = true; asked = 0; => open = true; asked = Math.max(asked, 0);", "open = true; asked = 0; => asked = 0;"})
+        broken = {"open = true; asked = 0; => open = true; asked = Math.max(asked, 0);",
+            "open = true; asked = 0; => asked = 0;"})
     static void promise18Anew(Due due) {
         ConceptTable x = five();
         due.is("ask()", x.ask(), 16);
@@ -43,8 +44,10 @@ final class EdgesOfAsking extends Edges {
     }
 
     @Edge(promise = 18, words = "NONE: there is none.",
-        broken = {"return inquiry.seek(family); } public int question => return Math.max(inquiry.seek(family), 0); } public int question",
-            "turn < 1 << attributes && asked != NONE; turn++) { if (!family => turn < (1 << attributes) - 1; turn++) { if (!family"})
+        broken = {"return inquiry.seek(family); } public int question "
+            + "=> return Math.max(inquiry.seek(family), 0); } public int question",
+            "turn < 1 << attributes && asked != NONE; turn++) { if (!family "
+            + "=> turn < (1 << attributes) - 1; turn++) { if (!family"})
     static void promise18NoneIfEverySetIsClosed(Due due) {
         for (int n = 1; n <= 12; n++) {
             due.is("of " + n, everySet(n).ask(), NONE);
@@ -96,7 +99,8 @@ final class EdgesOfAsking extends Edges {
     // Promise 19: question
 
     @Edge(promise = 19, words = "NONE: there is none, or no ASKING.",
-        broken = {"open = false; asked = NONE; } => open = false; }", "private int asked = NONE; => private int asked = 0;"})
+        broken = {"open = false; asked = NONE; } => open = false; }",
+            "private int asked = NONE; => private int asked = 0;"})
     static void promise19NoAsking(Due due) {
         due.is("of a new one", new ConceptTable().question(), NONE);
         due.is("of five", five().question(), NONE);
@@ -113,7 +117,8 @@ final class EdgesOfAsking extends Edges {
 
     @Edge(promise = 19, words = "NONE: there is none",
         broken = {"question() { return inquiry.asked(); => question() { return Math.max(inquiry.asked(), 0);",
-            "question() { return inquiry.asked(); => question() { return inquiry.asked() == NONE && inquiry.isOpen() ? BAD : inquiry.asked();"})
+            "question() { return inquiry.asked(); "
+            + "=> question() { return inquiry.asked() == NONE && inquiry.isOpen() ? BAD : inquiry.asked();"})
     static void promise19ThereIsNone(Due due) {
         ConceptTable x = nothingToAsk();
         due.is("after the last yes()", x.question(), NONE);
@@ -129,8 +134,10 @@ final class EdgesOfAsking extends Edges {
     }
 
     @Edge(promise = 19, words = "THE QUESTION'S set",
-        broken = {"question() { return inquiry.asked(); => question() { int asked = inquiry.asked(); inquiry.stop(); return asked;",
-            "question() { return inquiry.asked(); => question() { return inquiry.asked() == 0 ? NONE : inquiry.asked();"})
+        broken = {"question() { return inquiry.asked(); "
+            + "=> question() { int asked = inquiry.asked(); inquiry.stop(); return asked;",
+            "question() { return inquiry.asked(); "
+            + "=> question() { return inquiry.asked() == 0 ? NONE : inquiry.asked();"})
     static void promise19ItStaysTheSame(Due due) {
         ConceptTable x = asking();
         for (int i = 0; i < 3; i++) {
@@ -166,7 +173,8 @@ final class EdgesOfAsking extends Edges {
             "agree(table.closureOf(asked)); return inquiry.seek(family); "
             + "=> agree(table.closureOf(asked)); return inquiry.seek(family) == NONE ? BAD : inquiry.asked();",
             "agree(table.closureOf(asked)); return inquiry.seek(family); "
-            + "=> agree(table.closureOf(asked)); if (inquiry.seek(family) == NONE) { inquiry.stop(); } return inquiry.asked();"})
+            + "=> agree(table.closureOf(asked)); if (inquiry.seek(family) == NONE) { inquiry.stop(); } return "
+            + "inquiry.asked();"})
     static void promise20NoneThen(Due due) {
         for (int n = 1; n <= 12; n++) {
             ConceptTable x = table(n);
@@ -203,9 +211,11 @@ final class EdgesOfAsking extends Edges {
     }
 
     @Edge(promise = 20, words = "BAD: there is no QUESTION.",
-        broken = {"if (asked == NONE) { return BAD; } inquiry => if (asked == NONE) { inquiry.forget(); return BAD; } inquiry",
+        broken = {"if (asked == NONE) { return BAD; } inquiry "
+            + "=> if (asked == NONE) { inquiry.forget(); return BAD; } inquiry",
             "if (asked == NONE) { return BAD; } inquiry => if (asked == NONE) { inquiry.stop(); return BAD; } inquiry",
-            "if (asked == NONE) { return BAD; } inquiry => if (asked == NONE) { inquiry.agree(0); return BAD; } inquiry"})
+            "if (asked == NONE) { return BAD; } inquiry "
+            + "=> if (asked == NONE) { inquiry.agree(0); return BAD; } inquiry"})
     static void promise20BadChangesNothing(Due due) {
         changesNothing(due, "yes() of a new one", ConceptTable::new, x -> x.yes(), BAD);
         changesNothing(due, "yes() without a QUESTION", Edges::nothingToAsk, x -> x.yes(), BAD);
@@ -215,7 +225,8 @@ final class EdgesOfAsking extends Edges {
     @Edge(promise = 20, words = "An answer yes: that rule is ACCEPTED.",
         broken = {"agreed.append(asked, closed); => if (asked != 0) { agreed.append(asked, closed); }",
             "!family.isClosed(asked) && agreed.areKeptBy(asked) => !family.isClosed(asked)",
-            "yes() { int asked = inquiry.asked(); if (asked == NONE) => yes() { int asked = inquiry.asked(); if (asked == NONE || table.isFull())"})
+            "yes() { int asked = inquiry.asked(); if (asked == NONE) "
+            + "=> yes() { int asked = inquiry.asked(); if (asked == NONE || table.isFull())"})
     static void promise20ThatRuleIsAccepted(Due due) {
         ConceptTable x = table(12);
         x.ask();
@@ -250,7 +261,8 @@ final class EdgesOfAsking extends Edges {
     @Edge(promise = 21, words = "The answer no, by an OBJECT's set: its number.",
         broken = {"inquiry.seek(family); return number; => return inquiry.seek(family);",
             "inquiry.seek(family); return number; => inquiry.seek(family); return Math.min(number, 18);",
-            "|| !table.isAttributeSet(set)) { return BAD; } if (!inquiry => || set == 0 || !table.isAttributeSet(set)) { return BAD; } if (!inquiry"})
+            "|| !table.isAttributeSet(set)) { return BAD; } if (!inquiry "
+            + "=> || set == 0 || !table.isAttributeSet(set)) { return BAD; } if (!inquiry"})
     static void promise21ItsNumber(Due due) {
         ConceptTable x = table(3);
         x.ask();
@@ -278,7 +290,8 @@ final class EdgesOfAsking extends Edges {
     }
 
     @Edge(promise = 21, words = "BAD: there is no QUESTION",
-        broken = {"if (asked == NONE || !table.isAttributeSet(set)) => if (!inquiry.isOpen() || !table.isAttributeSet(set))",
+        broken = {"if (asked == NONE || !table.isAttributeSet(set)) "
+            + "=> if (!inquiry.isOpen() || !table.isAttributeSet(set))",
             "if (asked == NONE || !table.isAttributeSet(set)) => if (!table.isAttributeSet(set))"})
     static void promise21NoQuestion(Due due) {
         for (int set : new int[] {0, 1, 3}) {
@@ -328,7 +341,8 @@ final class EdgesOfAsking extends Edges {
     }
 
     @Edge(promise = 21, words = "not all of its CLOSURE",
-        broken = {"&& !Sets.hasAll(set, closed) && agreed => && agreed", "&& !Sets.hasAll(set, closed) && agreed => && set != closed && agreed"})
+        broken = {"&& !Sets.hasAll(set, closed) && agreed => && agreed",
+            "&& !Sets.hasAll(set, closed) && agreed => && set != closed && agreed"})
     static void promise21AllOfItsClosure(Due due) {
         ConceptTable x = asking();
         due.is("no(6), just the CLOSURE", x.no(6), AGAINST);
@@ -341,7 +355,8 @@ final class EdgesOfAsking extends Edges {
     }
 
     @Edge(promise = 21, words = "and KEEPS all ACCEPTED rules",
-        broken = {"&& agreed.areKeptBy(set); => ;", "boolean areKeptBy(int set) { for (int i = 0; => boolean areKeptBy(int set) { for (int i = 1;"})
+        broken = {"&& agreed.areKeptBy(set); => ;",
+            "boolean areKeptBy(int set) { for (int i = 0; => boolean areKeptBy(int set) { for (int i = 1;"})
     static void promise21AgainstAnAcceptedRule(Due due) {
         ConceptTable x = askingMore();
         due.is("question()", x.question(), 1);
@@ -352,7 +367,8 @@ final class EdgesOfAsking extends Edges {
     }
 
     @Edge(promise = 21, words = "FULL: there are 20.",
-        broken = {"if (table.isFull()) { return FULL; } int number => if (table.isFull()) { return AGAINST; } int number",
+        broken = {"if (table.isFull()) { return FULL; } int number "
+            + "=> if (table.isFull()) { return AGAINST; } int number",
             "if (table.isFull()) { return FULL; } int number => if (table.size() > 18) { return FULL; } int number",
             "if (table.isFull()) { return FULL; } int number => int number"})
     static void promise21FullThereAre20(Due due) {
@@ -382,8 +398,10 @@ final class EdgesOfAsking extends Edges {
     }
 
     @Edge(promise = 21, words = "AGAINST: it is not such an OBJECT; FULL: there are 20.",
-        broken = {"if (!inquiry.isCounterexample(set, table.closureOf(asked))) { return AGAINST; } if (table.isFull()) { return FULL; } "
-            + "=> if (table.isFull()) { return FULL; } if (!inquiry.isCounterexample(set, table.closureOf(asked))) { return AGAINST; }",
+        broken = {"if (!inquiry.isCounterexample(set, table.closureOf(asked))) { return AGAINST; } "
+            + "if (table.isFull()) { return FULL; } "
+            + "=> if (table.isFull()) { return FULL; } if (!inquiry.isCounterexample(set, table.closureOf(asked))) { "
+            + "return AGAINST; }",
             "no(int set) { int asked = inquiry.asked(); => no(int set) { int asked = inquiry.asked(); "
             + "if (asked != NONE && table.isFull()) { return FULL; }"})
     static void promise21BadAndAgainstBeforeFull(Due due) {
@@ -396,10 +414,13 @@ final class EdgesOfAsking extends Edges {
         due.is("no(3)", x.no(3), FULL);
     }
 
-    @Edge(promise = 21, words = "The first of: BAD: there is no QUESTION, or bits; AGAINST: it is not such an OBJECT; FULL: there are 20.",
+    @Edge(promise = 21,
+        words = "BAD: there is no QUESTION, or bits; AGAINST: it is not such an OBJECT; FULL: there are 20.",
         broken = {"closureOf(asked))) { return AGAINST; } => closureOf(asked))) { inquiry.stop(); return AGAINST; }",
-            "if (table.isFull()) { return FULL; } int number => if (table.isFull()) { inquiry.stop(); return FULL; } int number",
-            "if (table.isFull()) { return FULL; } int number => if (table.isFull()) { family.meetWith(set); return FULL; } int number",
+            "if (table.isFull()) { return FULL; } int number "
+            + "=> if (table.isFull()) { inquiry.stop(); return FULL; } int number",
+            "if (table.isFull()) { return FULL; } int number "
+            + "=> if (table.isFull()) { family.meetWith(set); return FULL; } int number",
             "|| !table.isAttributeSet(set)) { return BAD; } if (!inquiry "
             + "=> || !table.isAttributeSet(set)) { inquiry.stop(); return BAD; } if (!inquiry"})
     static void promise21RefusedChangesNothing(Due due) {
@@ -420,24 +441,28 @@ final class EdgesOfAsking extends Edges {
 
     // Promise 22: accepted
 
+    private static void onlyFourThenSix(Due due, String when, ConceptTable x) {
+        due.is("how many " + when, x.count(2), 1);
+        due.is("IF " + when, x.accepted(0, 0), 4);
+        due.is("THEN " + when, x.accepted(0, 1), 6);
+        due.is("no second one " + when, x.accepted(1, 0), NONE);
+    }
+
     @Edge(promise = 22, words = "(ACCEPTED rules stay told when there is no ASKING any more, till begin() or ask().)",
         broken = {"void stop() { open = false; => void stop() { agreed.clear(); open = false;",
             "what > 1) { return BAD; } => what > 1) { return BAD; } if (!inquiry.isOpen()) { return NONE; }",
             "what > 1) { return BAD; } => what > 1) { return BAD; } if (inquiry.asked() == NONE) { return NONE; }"})
     static void promise22StayTold(Due due) {
         ConceptTable x = asking();
-        for (String when : new String[] {"in ASKING", "after remove", "after object", "after remove and object"}) {
-            due.is("IF " + when, x.accepted(0, 0), 4);
-            due.is("THEN " + when, x.accepted(0, 1), 6);
-            due.is("how many " + when, x.count(2), 1);
-            due.is("no second one " + when, x.accepted(1, 0), NONE);
-            if (when.equals("in ASKING")) {
-                x.remove(1);
-            } else {
-                x.object(5);
-            }
-            due.is("ASKING then", x.count(3), 0);
-        }
+        onlyFourThenSix(due, "in ASKING", x);
+        x.remove(1);
+        due.is("ASKING after remove", x.count(3), 0);
+        onlyFourThenSix(due, "after remove", x);
+        x.object(5);
+        onlyFourThenSix(due, "after remove and object", x);
+        ConceptTable z = noAskingAnyMore();
+        due.is("ASKING after object", z.count(3), 0);
+        onlyFourThenSix(due, "after object", z);
         ConceptTable y = nothingToAsk();
         due.is("IF without a QUESTION", y.accepted(0, 0), 0);
         due.is("THEN without a QUESTION", y.accepted(0, 1), 3);
@@ -445,7 +470,8 @@ final class EdgesOfAsking extends Edges {
 
     @Edge(promise = 22, words = "(ACCEPTED rules stay told",
         broken = "what == 0 ? rules.premise(i) : rules.conclusion(i); } public int count "
-            + "=> what == 0 || i < 0 || i >= rules.size() ? rules.premise(i) : table.closureOf(rules.premise(i)); } public int count")
+            + "=> what == 0 || i < 0 || i >= rules.size() ? rules.premise(i) : table.closureOf(rules.premise(i)); } "
+            + "public int count")
     static void promise22AsTheyWereAccepted(Due due) {
         ConceptTable x = asking();
         x.object(4);
@@ -480,7 +506,8 @@ final class EdgesOfAsking extends Edges {
             "i >= 0 && i < size ? conclusions[i] : NONE => i >= 0 && i < conclusions.length ? conclusions[i] : NONE",
             "i >= 0 && i < size ? premises[i] : NONE => i < size ? premises[Math.max(i, 0)] : NONE",
             "i >= 0 && i < size ? conclusions[i] : NONE => i < size ? conclusions[Math.max(i, 0)] : NONE",
-            "Rules rules = inquiry.agreed(); => Rules rules = inquiry.agreed(); if (i >= rules.size()) { return BAD; }"})
+            "Rules rules = inquiry.agreed(); "
+            + "=> Rules rules = inquiry.agreed(); if (i >= rules.size()) { return BAD; }"})
     static void promise22NoneSuch(Due due) {
         for (int what = 0; what < 2; what++) {
             for (int i : new int[] {1, 2, 511, 512, -1, -512, MOST, LEAST}) {
@@ -495,8 +522,10 @@ final class EdgesOfAsking extends Edges {
 
     @Edge(promise = 22, words = "BAD, before that: another what.",
         broken = {"if (what < 0 || what > 1) { return BAD; } Rules rules = inquiry.agreed(); "
-            + "=> Rules rules = inquiry.agreed(); if (i < 0 || i >= rules.size()) { return NONE; } if (what < 0 || what > 1) { return BAD; }",
-            "what < 0 || what > 1 => what > 1", "what < 0 || what > 1 => what < 0", "what < 0 || what > 1 => what < 0 || what > 2",
+            + "=> Rules rules = inquiry.agreed(); if (i < 0 || i >= rules.size()) { return NONE; } if (what < 0 || "
+            + "what > 1) { return BAD; }",
+            "what < 0 || what > 1 => what > 1", "what < 0 || what > 1 => what < 0",
+            "what < 0 || what > 1 => what < 0 || what > 2",
             "what < 0 || what > 1 => what < 0 || what > 0"})
     static void promise22BadBeforeNone(Due due) {
         for (int what : new int[] {2, 3, -1, -2, MOST, LEAST}) {
@@ -507,6 +536,13 @@ final class EdgesOfAsking extends Edges {
         }
         due.is("accepted(0, 1)", asking().accepted(0, 1), 6);
         due.is("accepted(0, 0)", asking().accepted(0, 0), 4);
+    }
+
+    @Edge(promise = 22, words = "BAD, before that: another what.",
+        broken = "public int accepted(int i, int what) { => public int accepted(int i, int what) { inquiry.stop();")
+    static void promise22BadChangesNothing(Due due) {
+        changesNothingAnywhere(due, "accepted(0, 2)", x -> x.accepted(0, 2), BAD);
+        changesNothingAnywhere(due, "accepted(LEAST, LEAST)", x -> x.accepted(LEAST, LEAST), BAD);
     }
 
     // Promise 23: count
@@ -523,7 +559,8 @@ final class EdgesOfAsking extends Edges {
     }
 
     @Edge(promise = 23, words = "2 ACCEPTED rules",
-        broken = {"case 2: return inquiry.agreed().size(); => case 2: return inquiry.isOpen() ? inquiry.agreed().size() : 0;",
+        broken = {"case 2: return inquiry.agreed().size(); "
+            + "=> case 2: return inquiry.isOpen() ? inquiry.agreed().size() : 0;",
             "case 2: return inquiry.agreed().size(); => case 2: return Math.min(inquiry.agreed().size(), 1);"})
     static void promise23AcceptedRules(Due due) {
         due.is("of a new one", new ConceptTable().count(2), 0);
@@ -561,7 +598,8 @@ final class EdgesOfAsking extends Edges {
     }
 
     @Edge(promise = 23, words = "BAD: another what.",
-        broken = {"default: return BAD; => default: return NONE;", "switch (what) { case 0: return table => switch (what & 7) { case 0: return table"})
+        broken = {"default: return BAD; => default: return NONE;",
+            "switch (what) { case 0: return table => switch (what & 7) { case 0: return table"})
     static void promise23AnotherWhat(Due due) {
         for (int wrong : new int[] {5, 6, 8, 12, -1, -4, -8, MOST, LEAST}) {
             changesNothingAnywhere(due, "count(" + wrong + ")", x -> x.count(wrong), BAD);

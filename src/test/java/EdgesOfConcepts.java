@@ -31,7 +31,9 @@ final class EdgesOfConcepts extends Edges {
             "table.closedBehind(set) : BAD => family.isClosed(set) ? table.closedBehind(set) : NONE : BAD"})
     static void promise8BehindASetThatIsNotClosed(Due due) {
         ConceptTable x = five();
-        int[][] pairs = {{16, 4}, {8, 4}, {24, 4}, {20, 12}, {28, 3}, {2, 3}, {30, 3}, {1, 3}, {5, 3}, {19, 7}, {15, 31}, {23, 31}};
+        int[][] pairs = {
+            {16, 4}, {8, 4}, {24, 4}, {20, 12}, {28, 3}, {2, 3},
+            {30, 3}, {1, 3}, {5, 3}, {19, 7}, {15, 31}, {23, 31}};
         for (int[] pair : pairs) {
             due.is("next(" + pair[0] + ")", x.next(pair[0]), pair[1]);
         }
@@ -66,7 +68,8 @@ final class EdgesOfConcepts extends Edges {
 
     @Edge(promise = 8, words = "The next CLOSED set behind a set",
         broken = {"int closedBehind(int set) { => int closedBehind(int set) { if (set == 0) { return closureOf(0); }",
-            "int closedBehind(int set) { => int closedBehind(int set) { if (set == 0) { return closureOf(1 << attributes - 1); }"})
+            "int closedBehind(int set) { "
+            + "=> int closedBehind(int set) { if (set == 0) { return closureOf(1 << attributes - 1); }"})
     static void promise8BehindTheEmptySet(Due due) {
         due.is("that is closed", five().next(0), 4);
         due.is("that is not", table(3, 6, 2).next(0), 2);
@@ -75,11 +78,19 @@ final class EdgesOfConcepts extends Edges {
     }
 
     @Edge(promise = 8, words = "BAD, likewise.",
-        broken = {"return table.isAttributeSet(set) ? table.closedBehind(set) : BAD; => return table.closedBehind(set);",
+        broken = {"return table.isAttributeSet(set) ? table.closedBehind(set) : BAD; "
+            + "=> return table.closedBehind(set);",
             "return table.isAttributeSet(set) ? table.closedBehind(set) : BAD; "
             + "=> return set <= table.allAttributes() ? table.closedBehind(set) : NONE;"})
     static void promise8BitsBeyondAttributes(Due due) {
         badBeyond(due, "next", (x, set) -> x.next(set));
+    }
+
+    @Edge(promise = 8, words = "BAD, likewise.",
+        broken = "public int next(int set) { => public int next(int set) { inquiry.stop();")
+    static void promise8BadChangesNothing(Due due) {
+        changesNothingAnywhere(due, "next(64)", x -> x.next(64), BAD);
+        changesNothingAnywhere(due, "next(-1)", x -> x.next(-1), BAD);
     }
 
     // Promise 9: concepts
@@ -132,10 +143,12 @@ final class EdgesOfConcepts extends Edges {
 
     // Promise 10: concept
 
-    @Edge(promise = 10, words = "what = 0 its set, 1 its EXTENT, 2 its LEVEL, 3 how many are right ABOVE it, 4 how many it is right ABOVE",
+    @Edge(promise = 10,
+        words = "what = 0 its set, 1 its EXTENT, 2 its LEVEL, 3 how many are right ABOVE it, 4 how many it is right ABOVE",
         broken = {"case 1: return table.extentOf(set); => case 1: return Integer.bitCount(table.extentOf(set));",
             "case 2: return family.levelOf(set); => case 2: return Integer.bitCount(set);",
-            "neighbours.findBelow(set, table); => neighbours.findAbove(set, table);", "ABOVE_FROM = 5 => ABOVE_FROM = 4"})
+            "neighbours.findBelow(set, table); => neighbours.findAbove(set, table);",
+            "ABOVE_FROM = 5 => ABOVE_FROM = 4"})
     static void promise10WhatFrom0To5(Due due) {
         ConceptTable x = five();
         row(due, "of five", x, 0, 0, 7, 0, 0, 2, NONE);
@@ -171,7 +184,8 @@ final class EdgesOfConcepts extends Edges {
         broken = {"level = Math.max(level, levelOf(above) + 1); => level = Math.max(level, 1);",
             "level = Math.max(level, levelOf(above) + 1); "
             + "=> level = level == 0 ? levelOf(above) + 1 : Math.min(level, levelOf(above) + 1);",
-            "level = Math.max(level, levelOf(above) + 1); => level = Math.max(level, Math.min(levelOf(above) + 1, 11));"})
+            "level = Math.max(level, levelOf(above) + 1); "
+            + "=> level = Math.max(level, Math.min(levelOf(above) + 1, 11));"})
     static void promise10TheGreatestNumberOfSteps(Due due) {
         ConceptTable x = table(3, 6, 4, 1);
         concepts(due, "of two ways", x, 0, 4, 6, 1, 7);
@@ -195,7 +209,8 @@ final class EdgesOfConcepts extends Edges {
     }
 
     @Edge(promise = 10, words = "right ABOVE, if none lies between",
-        broken = {"dropPartsOf(set); insert(set); => insert(set);", "if (!isPartOfFound(set)) { => {"})
+        broken = {"dropPartsOf(set); insert(set); => insert(set);", "if (!isPartOfFound(set)) { => {",
+            "found[kept] = found[i]; => ;"})
     static void promise10NoneLiesBetween(Due due) {
         int[][] orders = {{1, 3, 0}, {0, 3, 1}, {3, 1, 0}, {1, 0, 3}};
         for (int[] sets : orders) {
@@ -207,6 +222,21 @@ final class EdgesOfConcepts extends Edges {
             due.is("right below the first", x.concept(0, 4), 1);
             due.is("right above the first", x.concept(0, 3), 0);
             due.is("right below the last", x.concept(3, 4), 0);
+        }
+        // 12 lies between 8 and 15, and takes its place among those above.
+        row(due, "of one in another's place", table(4, 8, 2, 12), 4, 15, 0, 3, 2, 0, 12, 2, NONE);
+    }
+
+    @Edge(promise = 10, words = "4 how many it is right ABOVE",
+        broken = {"k < table.attributes(); k++) => k < table.attributes() - 1; k++)",
+            "for (int k = 0; k < table.attributes(); => for (int k = 1; k < table.attributes();"})
+    static void promise10HowManyItIsRightAbove(Due due) {
+        for (int n = 1; n <= 12; n++) {
+            ConceptTable x = everySet(n);
+            due.is("the first of " + n, x.concept(0, 4), n);
+            due.is("the second of " + n, x.concept(1, 4), n - 1);
+            due.is("the last of " + n, x.concept(all(n), 4), 0);
+            due.is("the only one of " + n, table(n).concept(0, 4), 0);
         }
     }
 
@@ -243,7 +273,8 @@ final class EdgesOfConcepts extends Edges {
     }
 
     @Edge(promise = 10, words = "NONE: there is none such",
-        broken = {"i < 0 || i >= family.size() => i < 0 || i > family.size()", "i < 0 || i >= family.size() => i >= family.size()",
+        broken = {"i < 0 || i >= family.size() => i < 0 || i > family.size()",
+            "i < 0 || i >= family.size() => i >= family.size()",
             "i >= family.size()) { return NONE; } => i >= family.size()) { return BAD; }"})
     static void promise10NoneSuch(Due due) {
         ConceptTable x = five();
@@ -271,6 +302,13 @@ final class EdgesOfConcepts extends Edges {
                 due.is("concept(" + i + ", " + what + ")", x.concept(i, what), BAD);
             }
         }
+    }
+
+    @Edge(promise = 10, words = "BAD, before that: what below 0.",
+        broken = "public int concept(int i, int what) { => public int concept(int i, int what) { inquiry.stop();")
+    static void promise10BadChangesNothing(Due due) {
+        changesNothingAnywhere(due, "concept(0, -1)", x -> x.concept(0, -1), BAD);
+        changesNothingAnywhere(due, "concept(LEAST, LEAST)", x -> x.concept(LEAST, LEAST), BAD);
     }
 
     // Promise 17: frequent

@@ -16,7 +16,8 @@ final class EdgesOfRules extends Edges {
     }
 
     @Edge(promise = 11, words = "THE BASE: PREMISES, each with its CLOSURE as THEN",
-        broken = "int fromParts = joinedOfParts(set, attributes); => int fromParts = set == 0 ? 1 : joinedOfParts(set, attributes);")
+        broken = "int fromParts = joinedOfParts(set, attributes); "
+            + "=> int fromParts = set == 0 ? 1 : joinedOfParts(set, attributes);")
     static void promise11OneRuleWithoutObjects(Due due) {
         for (int n = 1; n <= 12; n++) {
             rules(due, "of " + n + " without objects", table(n), new int[] {0, all(n)});
@@ -26,7 +27,8 @@ final class EdgesOfRules extends Edges {
 
     @Edge(promise = 11, words = "the CLOSURE of each PREMISE that is a part of it (not all of it) is a part of it, too",
         broken = {"isClosed(set) && Sets.hasAll(set, fromParts)) => isClosed(set))",
-            "fromParts |= closed; => ;", "if ((set & bit) != 0) { closures => if ((set & bit) != 0 && k > 0) { closures"})
+            "fromParts |= closed; => ;",
+            "if ((set & bit) != 0) { closures => if ((set & bit) != 0 && k > 0) { closures"})
     static void promise11ClosuresOfItsParts(Due due) {
         // 3 has the premises 1 and 2 for parts, and not their closures; 7 has these, too.
         rules(due, "with one of rules' closures", table(4, 6, 5, 0),
@@ -54,7 +56,8 @@ final class EdgesOfRules extends Edges {
     }
 
     @Edge(promise = 11, words = "How many rules THE BASE has.",
-        broken = {"family.meetWith(set); stem.forget(); => family.meetWith(set);", "stem.forget(); return set; => return set;",
+        broken = {"family.meetWith(set); stem.forget(); => family.meetWith(set);",
+            "stem.forget(); return set; => return set;",
             "stem.forget(); inquiry.forget(); => inquiry.forget();"})
     static void promise11AfterEachChange(Due due) {
         ConceptTable x = table(2);
@@ -74,7 +77,8 @@ final class EdgesOfRules extends Edges {
 
     @Edge(promise = 12, words = "how many OBJECTS have all of its IF (2)",
         broken = {"NONE : Integer.bitCount(table.extentOf(premise)) => NONE : table.extentOf(premise)",
-            "NONE : Integer.bitCount(table.extentOf(premise)) => NONE : Math.min(Integer.bitCount(table.extentOf(premise)), 19)"})
+            "NONE : Integer.bitCount(table.extentOf(premise)) "
+            + "=> NONE : Math.min(Integer.bitCount(table.extentOf(premise)), 19)"})
     static void promise12HowManyHaveIt(Due due) {
         int[] want = {0, 1, 2, 2, 0};
         for (int i = 0; i < want.length; i++) {
@@ -89,7 +93,8 @@ final class EdgesOfRules extends Edges {
         broken = "setJoined(set, fromParts); set = Sets.rightBehind(set, attributes); "
             + "=> setJoined(set, fromParts); set = set + 1 < 1 << attributes ? set + 1 : NONE;")
     static void promise12InOrder(Due due) {
-        rules(due, "of five", five(), new int[] {16, 31}, new int[] {8, 12}, new int[] {2, 3}, new int[] {1, 3}, new int[] {15, 31});
+        rules(due, "of five", five(),
+            new int[] {16, 31}, new int[] {8, 12}, new int[] {2, 3}, new int[] {1, 3}, new int[] {15, 31});
         ConceptTable x = table(12, 0);
         for (int i = 0; i < 12; i++) {
             due.is("IF of rule " + i, x.rule(i, 0), 1 << 11 - i);
@@ -118,8 +123,10 @@ final class EdgesOfRules extends Edges {
 
     @Edge(promise = 12, words = "BAD, before that: another what.",
         broken = {"if (what < 0 || what > 2) { return BAD; } Rules rules = baseRules(); "
-            + "=> Rules rules = baseRules(); if (i < 0 || i >= rules.size()) { return NONE; } if (what < 0 || what > 2) { return BAD; }",
-            "what < 0 || what > 2 => what > 2", "what < 0 || what > 2 => what < 0 || what > 3", "what < 0 || what > 2 => what < 0",
+            + "=> Rules rules = baseRules(); if (i < 0 || i >= rules.size()) { return NONE; } if (what < 0 || what > "
+            + "2) { return BAD; }",
+            "what < 0 || what > 2 => what > 2", "what < 0 || what > 2 => what < 0 || what > 3",
+            "what < 0 || what > 2 => what < 0",
             "what < 0 || what > 2 => what < 0 || what > 1"})
     static void promise12BadBeforeNone(Due due) {
         ConceptTable x = five();
@@ -131,6 +138,13 @@ final class EdgesOfRules extends Edges {
         }
         due.is("rule(4, 2)", x.rule(4, 2), 0);
         due.is("rule(0, 0)", x.rule(0, 0), 16);
+    }
+
+    @Edge(promise = 12, words = "BAD, before that: another what.",
+        broken = "public int rule(int i, int what) { => public int rule(int i, int what) { inquiry.stop();")
+    static void promise12BadChangesNothing(Due due) {
+        changesNothingAnywhere(due, "rule(0, 3)", x -> x.rule(0, 3), BAD);
+        changesNothingAnywhere(due, "rule(LEAST, LEAST)", x -> x.rule(LEAST, LEAST), BAD);
     }
 
     // Promise 13: follows
@@ -151,8 +165,10 @@ final class EdgesOfRules extends Edges {
     }
 
     @Edge(promise = 13, words = "(all, if there are not so many)",
-        broken = {"Math.min(most, size)) => most <= size ? most : 0)", "Math.min(most, size)) => most <= size ? most : size - 1)",
-            "Math.min(most, size)) => Math.min(most & 255, size))", "n < 0) { return BAD; } => n < 0 || n > baseRules().size()) { return BAD; }"})
+        broken = {"Math.min(most, size)) => most <= size ? most : 0)",
+            "Math.min(most, size)) => most <= size ? most : size - 1)",
+            "Math.min(most, size)) => Math.min(most & 255, size))",
+            "n < 0) { return BAD; } => n < 0 || n > baseRules().size()) { return BAD; }"})
     static void promise13AllIfNotSoMany(Due due) {
         for (int n : new int[] {5, 6, 7, 256, 4096, MOST - 1, MOST}) {
             due.is("follows(9, " + n + ") of five", five().follows(9, n), 31);
@@ -176,7 +192,8 @@ final class EdgesOfRules extends Edges {
     }
 
     @Edge(promise = 13, words = "What FOLLOWS from a set by rules",
-        broken = {"if (Sets.hasAll(set, premises[i])) { set |= => if (premises[i] != 0 && Sets.hasAll(set, premises[i])) { set |=",
+        broken = {"if (Sets.hasAll(set, premises[i])) { set |= "
+            + "=> if (premises[i] != 0 && Sets.hasAll(set, premises[i])) { set |=",
             "n < 0) { return BAD; } => n < 0 || set == 0) { return BAD; }"})
     static void promise13FromTheEmptySetAndFromAll(Due due) {
         due.is("from none, a rule with no IF", table(12).follows(0, 1), 4095);
@@ -198,7 +215,8 @@ final class EdgesOfRules extends Edges {
     }
 
     @Edge(promise = 13, words = "BAD: bits, or n below 0.",
-        broken = {"|| n < 0) { return BAD; } => ) { return BAD; }", "|| n < 0) { => || n == -1) {", "|| n < 0) { => || n < -1) {"})
+        broken = {"|| n < 0) { return BAD; } => ) { return BAD; }", "|| n < 0) { => || n == -1) {",
+            "|| n < 0) { => || n < -1) {"})
     static void promise13NBelow0(Due due) {
         for (int n : new int[] {-1, -2, -5, LEAST}) {
             due.is("follows(0, " + n + ")", five().follows(0, n), BAD);
@@ -207,10 +225,18 @@ final class EdgesOfRules extends Edges {
         }
     }
 
+    @Edge(promise = 13, words = "BAD: bits, or n below 0.",
+        broken = "public int follows(int set, int n) { => public int follows(int set, int n) { inquiry.stop();")
+    static void promise13BadChangesNothing(Due due) {
+        changesNothingAnywhere(due, "follows(0, -1)", x -> x.follows(0, -1), BAD);
+        changesNothingAnywhere(due, "follows(64, 0)", x -> x.follows(64, 0), BAD);
+    }
+
     // Promise 14: holds
 
     @Edge(promise = 14, words = "Whether all OBJECTS' sets KEEP a rule",
-        broken = "asNumber(Sets.hasAll(table.closureOf(premise) => asNumber(table.size() > 0 && Sets.hasAll(table.closureOf(premise)")
+        broken = "asNumber(Sets.hasAll(table.closureOf(premise) "
+            + "=> asNumber(table.size() > 0 && Sets.hasAll(table.closureOf(premise)")
     static void promise14NoObjects(Due due) {
         due.is("holds(0, 4095)", table(12).holds(0, 4095), 1);
         due.is("holds(0, 1) of one attribute", table(1).holds(0, 1), 1);
@@ -229,7 +255,8 @@ final class EdgesOfRules extends Edges {
     @Edge(promise = 14, words = "or all of THEN",
         broken = {"asNumber(Sets.hasAll(table.closureOf(premise), conclusion)) "
             + "=> asNumber(conclusion != 0 && Sets.hasAll(table.closureOf(premise), conclusion))",
-            "asNumber(Sets.hasAll(table.closureOf(premise), conclusion)) => asNumber((table.closureOf(premise) & conclusion) != 0)",
+            "asNumber(Sets.hasAll(table.closureOf(premise), conclusion)) "
+            + "=> asNumber((table.closureOf(premise) & conclusion) != 0)",
             "asNumber(Sets.hasAll(table.closureOf(premise), conclusion)) "
             + "=> asNumber(premise == 0 || Sets.hasAll(table.closureOf(premise), conclusion))"})
     static void promise14EmptyIfAndThen(Due due) {
@@ -252,7 +279,8 @@ final class EdgesOfRules extends Edges {
     }
 
     @Edge(promise = 14, words = "BAD: bits.",
-        broken = {"!table.isAttributeSet(premise) || !table.isAttributeSet(conclusion) => !table.isAttributeSet(premise)",
+        broken = {"!table.isAttributeSet(premise) || !table.isAttributeSet(conclusion) "
+            + "=> !table.isAttributeSet(premise)",
             "!table.isAttributeSet(premise) || !table.isAttributeSet(conclusion) => !table.isAttributeSet(conclusion)",
             "!table.isAttributeSet(premise) || !table.isAttributeSet(conclusion) "
             + "=> !table.isAttributeSet(premise) && !table.isAttributeSet(conclusion)"})
@@ -261,6 +289,14 @@ final class EdgesOfRules extends Edges {
         badBeyond(due, "holds, THEN", (x, set) -> x.holds(0, set));
         badBeyond(due, "holds, THEN of all", (x, set) -> x.holds(1, set));
         badBeyond(due, "holds, both", (x, set) -> x.holds(set, set));
+    }
+
+    @Edge(promise = 14, words = "BAD: bits.",
+        broken = "public int holds(int premise, int conclusion) { "
+            + "=> public int holds(int premise, int conclusion) { inquiry.stop();")
+    static void promise14BadChangesNothing(Due due) {
+        changesNothingAnywhere(due, "holds(64, 0)", x -> x.holds(64, 0), BAD);
+        changesNothingAnywhere(due, "holds(0, 64)", x -> x.holds(0, 64), BAD);
     }
 
     // Promise 15: needed
@@ -321,6 +357,13 @@ final class EdgesOfRules extends Edges {
         }
     }
 
+    @Edge(promise = 15, words = "BAD.",
+        broken = "public int needed(int attribute) { => public int needed(int attribute) { inquiry.stop();")
+    static void promise15BadChangesNothing(Due due) {
+        changesNothingAnywhere(due, "needed(12)", x -> x.needed(12), BAD);
+        changesNothingAnywhere(due, "needed(-1)", x -> x.needed(-1), BAD);
+    }
+
     // Promise 16: neededObject
 
     @Edge(promise = 16, words = "(all ATTRIBUTES, if there are none such)",
@@ -335,7 +378,8 @@ final class EdgesOfRules extends Edges {
     }
 
     @Edge(promise = 16, words = "those OBJECTS whose sets have all of it, and more",
-        broken = {"if (Sets.hasAllAndMore(rows[i], own)) { richer => if (i != object && Sets.hasAll(rows[i], own)) { richer",
+        broken = {"if (Sets.hasAllAndMore(rows[i], own)) { richer "
+            + "=> if (i != object && Sets.hasAll(rows[i], own)) { richer",
             "i < size; i++) { if (Sets.hasAllAndMore => i < size - 1; i++) { if (Sets.hasAllAndMore"})
     static void promise16AndMore(Due due) {
         due.is("one just like it", table(2, 1, 1).neededObject(0), 1);
@@ -373,5 +417,12 @@ final class EdgesOfRules extends Edges {
         ConceptTable x = table(3, 1, 2);
         x.remove(0);
         due.is("neededObject(1) after remove(0) of two", x.neededObject(1), BAD);
+    }
+
+    @Edge(promise = 16, words = "BAD.",
+        broken = "public int neededObject(int object) { => public int neededObject(int object) { inquiry.stop();")
+    static void promise16BadChangesNothing(Due due) {
+        changesNothingAnywhere(due, "neededObject(20)", x -> x.neededObject(20), BAD);
+        changesNothingAnywhere(due, "neededObject(-1)", x -> x.neededObject(-1), BAD);
     }
 }

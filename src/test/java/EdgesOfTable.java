@@ -95,7 +95,8 @@ final class EdgesOfTable extends Edges {
             "set < 1 << attributes; set++) { setLevel => set < (1 << attributes) - 1; set++) { setLevel"})
     static void promise2SoManyAttributes(Due due) {
         ConceptTable x = everySet(12);
-        for (int n : new int[] {1, 2, 3, 4, 5, 6, 7, 8, 9, 10, 11, 12, 12, 11, 10, 9, 8, 7, 6, 5, 4, 3, 2, 1, 1, 12, 1}) {
+        int[] widths = {1, 2, 3, 4, 5, 6, 7, 8, 9, 10, 11, 12, 12, 11, 10, 9, 8, 7, 6, 5, 4, 3, 2, 1, 1, 12, 1};
+        for (int n : widths) {
             x.begin(n);
             String when = "of " + n;
             due.is("count(0) " + when, x.count(0), n);
@@ -218,7 +219,8 @@ final class EdgesOfTable extends Edges {
     }
 
     @Edge(promise = 3, words = "each with its set of ATTRIBUTES",
-        broken = "rows[size] = set; => for (int i = 0; i < size; i++) { if (rows[i] == set) { return i; } } rows[size] = set;")
+        broken = "rows[size] = set; "
+            + "=> for (int i = 0; i < size; i++) { if (rows[i] == set) { return i; } } rows[size] = set;")
     static void promise3SeveralAlike(Due due) {
         ConceptTable x = table(3, 5);
         due.is("object(5) again", x.object(5), 1);
@@ -227,7 +229,8 @@ final class EdgesOfTable extends Edges {
         due.is("extent(5)", x.extent(5), 7);
     }
 
-    @Edge(promise = 3, words = "there is no ASKING then", broken = "inquiry.stop(); return addRow(set); => return addRow(set);")
+    @Edge(promise = 3, words = "there is no ASKING then", broken = "inquiry.stop(); return addRow(set); "
+            + "=> return addRow(set);")
     static void promise3NoAskingThen(Due due) {
         ConceptTable x = asking();
         due.is("object(2) in ASKING", x.object(2), 2);
@@ -253,7 +256,8 @@ final class EdgesOfTable extends Edges {
     }
 
     @Edge(promise = 3, words = "FULL: there are 20.",
-        broken = {"return size >= rows.length; => return size >= rows.length - 1;", "MOST_OBJECTS = 20 => MOST_OBJECTS = 21",
+        broken = {"return size >= rows.length; => return size >= rows.length - 1;",
+            "MOST_OBJECTS = 20 => MOST_OBJECTS = 21",
             "if (table.isFull()) { return FULL; } inquiry => if (table.isFull()) { return BAD; } inquiry"})
     static void promise3FullThereAre20(Due due) {
         for (int n : new int[] {1, 12}) {
@@ -300,8 +304,10 @@ final class EdgesOfTable extends Edges {
     }
 
     @Edge(promise = 3, words = "FULL: there are 20.",
-        broken = {"if (table.isFull()) { return FULL; } inquiry.stop(); => inquiry.stop(); if (table.isFull()) { return FULL; }",
-            "if (table.isFull()) { return FULL; } inquiry => if (table.isFull()) { family.meetWith(set); return FULL; } inquiry"})
+        broken = {"if (table.isFull()) { return FULL; } inquiry.stop(); "
+            + "=> inquiry.stop(); if (table.isFull()) { return FULL; }",
+            "if (table.isFull()) { return FULL; } inquiry "
+            + "=> if (table.isFull()) { family.meetWith(set); return FULL; } inquiry"})
     static void promise3FullChangesNothing(Due due) {
         changesNothing(due, "object(0) of 20", () -> alike(3, 0, 20), x -> x.object(0), FULL);
         changesNothing(due, "object(2) of 20 in ASKING", Edges::fullAndAsking, x -> x.object(2), FULL);
@@ -369,7 +375,8 @@ final class EdgesOfTable extends Edges {
     }
 
     @Edge(promise = 4, words = "its set",
-        broken = "int set = table.takeOut(object); => int set = table.row(object) == 0 ? BAD : table.row(object); table.takeOut(object);")
+        broken = "int set = table.takeOut(object); "
+            + "=> int set = table.row(object) == 0 ? BAD : table.row(object); table.takeOut(object);")
     static void promise4ItsSet(Due due) {
         ConceptTable x = table(12, 0, 4095, 2048, 1);
         due.is("of the empty set", x.remove(0), 0);
@@ -389,9 +396,11 @@ final class EdgesOfTable extends Edges {
     }
 
     @Edge(promise = 4, words = "BAD: no such one.",
-        broken = {"boolean isObject(int number) { return number >= 0 && number < size; => boolean isObject(int number) { return number >= 0 && number <= size && size > 0;",
+        broken = {"boolean isObject(int number) { return number >= 0 && number < size; "
+            + "=> boolean isObject(int number) { return number >= 0 && number <= size && size > 0;",
             "boolean isObject(int number) { return number >= 0 && => boolean isObject(int number) { return",
-            "boolean isObject(int number) { return number >= 0 && number < size; => boolean isObject(int number) { return (number & 31) < size;"})
+            "boolean isObject(int number) { return number >= 0 && number < size; "
+            + "=> boolean isObject(int number) { return (number & 31) < size;"})
     static void promise4NoSuchOne(Due due) {
         for (int size : new int[] {0, 1, 3, 20}) {
             for (int wrong : notBelow(size)) {
@@ -435,7 +444,8 @@ final class EdgesOfTable extends Edges {
     }
 
     @Edge(promise = 5, words = "the ATTRIBUTES that all of them have",
-        broken = "table.isObjectSet(objects) ? table.commonOf(objects) : BAD => table.isObjectSet(objects) && table.commonOf(objects) != 0 ? table.commonOf(objects) : BAD")
+        broken = "table.isObjectSet(objects) ? table.commonOf(objects) : BAD "
+            + "=> table.isObjectSet(objects) && table.commonOf(objects) != 0 ? table.commonOf(objects) : BAD")
     static void promise5NothingInCommon(Due due) {
         due.is("of 1 and 2", table(2, 1, 2).common(3), 0);
         due.is("of one without any", table(2, 0).common(1), 0);
@@ -458,6 +468,13 @@ final class EdgesOfTable extends Edges {
         due.is("common(4) after remove(0) of three", y.common(4), BAD);
         y.begin(5);
         due.is("common(1) after begin", y.common(1), BAD);
+    }
+
+    @Edge(promise = 5, words = "BAD: bits beyond those there are.",
+        broken = "public int common(int objects) { => public int common(int objects) { inquiry.stop();")
+    static void promise5BadChangesNothing(Due due) {
+        changesNothingAnywhere(due, "common(1 << 20)", x -> x.common(1 << 20), BAD);
+        changesNothingAnywhere(due, "common(-1)", x -> x.common(-1), BAD);
     }
 
     // Promise 6: extent
@@ -484,10 +501,19 @@ final class EdgesOfTable extends Edges {
 
     @Edge(promise = 6, words = "BAD, likewise.",
         broken = {"return table.isAttributeSet(set) ? table.extentOf(set) : BAD; => return table.extentOf(set);",
-            "return table.isAttributeSet(set) ? table.extentOf(set) : BAD; => return set <= table.allAttributes() ? table.extentOf(set) : BAD;",
-            "return table.isAttributeSet(set) ? table.extentOf(set) : BAD; => return set >= 0 ? table.extentOf(set) : BAD;"})
+            "return table.isAttributeSet(set) ? table.extentOf(set) : BAD; "
+            + "=> return set <= table.allAttributes() ? table.extentOf(set) : BAD;",
+            "return table.isAttributeSet(set) ? table.extentOf(set) : BAD; "
+            + "=> return set >= 0 ? table.extentOf(set) : BAD;"})
     static void promise6BitsBeyondAttributes(Due due) {
         badBeyond(due, "extent", (x, set) -> x.extent(set));
+    }
+
+    @Edge(promise = 6, words = "BAD, likewise.",
+        broken = "public int extent(int set) { => public int extent(int set) { inquiry.stop();")
+    static void promise6BadChangesNothing(Due due) {
+        changesNothingAnywhere(due, "extent(64)", x -> x.extent(64), BAD);
+        changesNothingAnywhere(due, "extent(-1)", x -> x.extent(-1), BAD);
     }
 
     // Promise 7: closure
@@ -530,9 +556,18 @@ final class EdgesOfTable extends Edges {
 
     @Edge(promise = 7, words = "BAD, likewise.",
         broken = {"return table.isAttributeSet(set) ? table.closureOf(set) : BAD; => return table.closureOf(set);",
-            "return table.isAttributeSet(set) ? table.closureOf(set) : BAD; => return set <= table.allAttributes() ? table.closureOf(set) : BAD;",
-            "return table.isAttributeSet(set) ? table.closureOf(set) : BAD; => return set >= 0 ? table.closureOf(set) : BAD;"})
+            "return table.isAttributeSet(set) ? table.closureOf(set) : BAD; "
+            + "=> return set <= table.allAttributes() ? table.closureOf(set) : BAD;",
+            "return table.isAttributeSet(set) ? table.closureOf(set) : BAD; "
+            + "=> return set >= 0 ? table.closureOf(set) : BAD;"})
     static void promise7BitsBeyondAttributes(Due due) {
         badBeyond(due, "closure", (x, set) -> x.closure(set));
+    }
+
+    @Edge(promise = 7, words = "BAD, likewise.",
+        broken = "public int closure(int set) { => public int closure(int set) { inquiry.stop();")
+    static void promise7BadChangesNothing(Due due) {
+        changesNothingAnywhere(due, "closure(64)", x -> x.closure(64), BAD);
+        changesNothingAnywhere(due, "closure(-1)", x -> x.closure(-1), BAD);
     }
 }
