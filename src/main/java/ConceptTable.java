@@ -594,8 +594,9 @@ public final class ConceptTable {
         private int size;
 
         Rules(int most) {
-            premises = new int[most];
-            conclusions = new int[most];
+            int length = Math.max(most, 0);
+            premises = new int[length];
+            conclusions = new int[length];
         }
 
         void clear() {

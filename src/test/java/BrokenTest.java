@@ -1,24 +1,14 @@
-import java.io.ByteArrayOutputStream;
 import java.io.IOException;
 import java.io.InputStream;
 import java.io.OutputStream;
 import java.io.PrintStream;
 import java.lang.reflect.InvocationTargetException;
 import java.lang.reflect.Method;
-import java.net.URI;
 import java.nio.file.Files;
 import java.nio.file.Path;
 import java.util.HashMap;
 import java.util.List;
 import java.util.Map;
-import javax.tools.FileObject;
-import javax.tools.ForwardingJavaFileManager;
-import javax.tools.JavaCompiler;
-import javax.tools.JavaFileManager;
-import javax.tools.JavaFileObject;
-import javax.tools.SimpleJavaFileObject;
-import javax.tools.StandardJavaFileManager;
-import javax.tools.ToolProvider;
 
 /** Breaks the class as each test of an edge says, and sees that this very test then fails. */
 public final class BrokenTest {
@@ -26,7 +16,6 @@ public final class BrokenTest {
     private static final String ARROW = " => ";
 
     private static final Due due = new Due("BrokenTest");
-    private static final JavaCompiler COMPILER = ToolProvider.getSystemJavaCompiler();
     private static final Map<String, Map<String, byte[]>> COMPILED = new HashMap<>();
 
     public static void main(String[] args) throws Exception {
@@ -64,7 +53,7 @@ public final class BrokenTest {
     private static boolean fails(Method test, String source) throws Exception {
         Map<String, byte[]> classes = COMPILED.get(source);
         if (classes == null) {
-            classes = compile(source);
+            classes = InMemory.compile("ConceptTable", source);
             COMPILED.put(source, classes);
         }
         if (classes.isEmpty()) {
@@ -93,53 +82,6 @@ public final class BrokenTest {
             System.setOut(out);
         }
         return own.hasWrong();
-    }
-
-    private static Map<String, byte[]> compile(String source) throws IOException {
-        Map<String, ByteArrayOutputStream> written = new HashMap<>();
-        try (StandardJavaFileManager files = COMPILER.getStandardFileManager(null, null, null)) {
-            JavaFileManager kept = new ForwardingJavaFileManager<JavaFileManager>(files) {
-                @Override
-                public JavaFileObject getJavaFileForOutput(
-                        Location location, String name, JavaFileObject.Kind kind, FileObject sibling) {
-                    return new Written(name, written);
-                }
-            };
-            boolean compiled = COMPILER.getTask(null, kept, null, null, null, List.of(new Text(source))).call();
-            Map<String, byte[]> classes = new HashMap<>();
-            if (compiled) {
-                written.forEach((name, bytes) -> classes.put(name, bytes.toByteArray()));
-            }
-            return classes;
-        }
-    }
-
-    private static final class Text extends SimpleJavaFileObject {
-        private final String source;
-
-        Text(String source) {
-            super(URI.create("string:///ConceptTable.java"), Kind.SOURCE);
-            this.source = source;
-        }
-
-        @Override
-        public CharSequence getCharContent(boolean ignoreErrors) {
-            return source;
-        }
-    }
-
-    private static final class Written extends SimpleJavaFileObject {
-        private final ByteArrayOutputStream bytes = new ByteArrayOutputStream();
-
-        Written(String name, Map<String, ByteArrayOutputStream> written) {
-            super(URI.create("bytes:///" + name + ".class"), Kind.CLASS);
-            written.put(name, bytes);
-        }
-
-        @Override
-        public OutputStream openOutputStream() {
-            return bytes;
-        }
     }
 
     /** Has a ConceptTable, and tests that use it, of its own; all else is its parent's. */
